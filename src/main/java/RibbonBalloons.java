@@ -420,7 +420,7 @@ public final class RibbonBalloons {
         return 31L * hash + value;
     }
 
-    // Both need that the forecast has looked ahead: it serves all balloons at once.
+    // The forecast has to have looked ahead before: one look serves all balloons.
     private long mixBalloon(long start, int b) {
         long hash = start;
         for (int what = 0; what <= 11; what++) {
@@ -462,8 +462,8 @@ public final class RibbonBalloons {
         return hash;
     }
 
-    // The library's own bits are outside LANGUAGE.md (rule 4). No number here is below 0 or so
-    // small that halving and doubling would not be exact.
+    // The library's own bits are outside LANGUAGE.md (rule 4). No number here is below 0, and
+    // halving and doubling are exact.
     private static long doubleBits(double number) {
         if (number <= 0.0) {
             return 0L;
@@ -479,15 +479,13 @@ public final class RibbonBalloons {
         return ((long) (exponent + 1023) << 52) + (long) ((mantissa - 1.0) * 4503599627370496.0);
     }
 
-    private static int floatBits(float number) {
-        if (number <= 0.0f) {
+    // Only for shares, which are 1 at most.
+    private static int floatBits(float share) {
+        if (share <= 0.0f) {
             return 0;
         }
-        float mantissa = number;
+        float mantissa = share;
         int exponent = 0;
-        for (; mantissa >= 2.0f && exponent < 127; exponent++) {
-            mantissa = mantissa / 2.0f;
-        }
         for (; mantissa < 1.0f && exponent > -126; exponent--) {
             mantissa = mantissa * 2.0f;
         }

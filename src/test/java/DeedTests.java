@@ -271,9 +271,12 @@ public final class DeedTests {
         x.note(3);
         Checks.due("still 20", x.count(13), 20);
         Checks.due("the oldest is gone", x.noted(0, 1), 1);
-        Checks.due("the newest hour", x.noted(19, 1), 20);
-        Checks.due("the newest balloon", x.noted(19, 0), 3);
-        Checks.due("the newest telling", x.noted(19, 2), 100);
+        for (int rank = 0; rank < 20; rank++) {
+            int hour = rank + 1;
+            Checks.due("balloon of the hour " + hour, x.noted(rank, 0), rank == 19 ? 3 : hour % 8);
+            Checks.due("hour of the hour " + hour, x.noted(rank, 1), hour);
+            Checks.due("telling of the hour " + hour, x.noted(rank, 2), 300 - 10 * hour);
+        }
         x.note(3);
         Checks.due("made anew, none is gone", x.noted(0, 1), 1);
         x.undo();

@@ -187,6 +187,9 @@ public final class LookTests {
 
     private static void promise23Highest() {
         RibbonBalloons x = new RibbonBalloons();
+        x.drop(1);
+        Checks.due("the one", x.count(10), 1);
+        x.undo();
         x.drop(3);
         x.drop(6);
         Checks.due("of several the lowest", x.count(10), 3);
@@ -263,6 +266,39 @@ public final class LookTests {
         y.cut(0);
         Checks.due("in the air", y.balloon(1, 6), 390);
         Checks.due("10 bags and in the air", y.why(1, 3), 5);
+    }
+
+    /** Heights that are no tens: a balloon that wants 150, held by a ribbon above the ground. */
+    private static RibbonBalloons heldAt(int height) {
+        RibbonBalloons x = new RibbonBalloons();
+        for (int b = 0; b < 8; b++) {
+            x.vent(b, b == 1 ? 30 : 60);
+        }
+        x.cut(1);
+        x.cut(0);
+        x.tie(0, height);
+        x.drop(1);
+        x.drop(1);
+        x.drop(1);
+        Checks.due("held at", x.balloon(1, 6), Math.min(height, 150));
+        return x;
+    }
+
+    private static void promise24OddHeights() {
+        RibbonBalloons x = heldAt(1);
+        Checks.due("1 is not on the ground", x.why(1, 0), 2);
+        Checks.due("no bag is put in at 1", x.why(1, 3), 6);
+        Checks.due("nor is it counted so", x.count(11), 7);
+        Checks.due("101 above is too much for 100", heldAt(101).why(1, 4), 8);
+        Checks.due("100 above is not", heldAt(100).why(1, 4), 0);
+        RibbonBalloons y = heldAt(149);
+        y.leak(1, 0);
+        y.bear(0, 1);
+        Checks.due("a pull of 1 is borne", y.snapsIn(), NONE);
+        y.bear(0, 0);
+        Checks.due("a pull of 1", y.ribbon(0, 3), 1);
+        Checks.due("0 does not bear it", y.snapsIn(), 1);
+        Checks.due("it snaps", y.pass(1), 1);
     }
 
     private static void promise25Stopped() {
@@ -450,6 +486,9 @@ public final class LookTests {
         digest("full", y, false, "");
         y.cut(0);
         digest("free", y, false, "");
+        for (int height = 0; height <= 130; height++) {
+            digest("mean of " + height, heldAt(height), false, "");
+        }
     }
 
     /** The hash as the document tells it, by the looks themselves. */
@@ -513,6 +552,7 @@ public final class LookTests {
         promise23Highest();
         promise24Why();
         promise24FirstReasonCounts();
+        promise24OddHeights();
         promise25Stopped();
         promise26IfDropped();
         promise27LandsIn();

@@ -218,6 +218,26 @@ public final class TextTests {
         Checks.due("and again", x.goBack(), 0);
     }
 
+    private static void promise18NotesAndAltimeters() {
+        RibbonBalloons x = new RibbonBalloons();
+        x.pass(3);
+        x.tune(1, 8);
+        x.note(5);
+        x.keep();
+        x.undo();
+        x.undo();
+        x.pass(1);
+        x.note(6);
+        x.goBack();
+        Checks.due("the note's balloon", x.noted(0, 0), 5);
+        Checks.due("the note's hour", x.noted(0, 1), 3);
+        Checks.due("one note", x.count(13), 1);
+        Checks.due("tuned just then", x.balloon(1, 8), 0);
+        x.undo();
+        Checks.due("the other note's balloon", x.noted(0, 0), 6);
+        Checks.due("never tuned", x.balloon(1, 8), 4);
+    }
+
     private static void changeAll(RibbonBalloons x) {
         x.vent(6, 60);
         x.cut(6);
@@ -302,6 +322,7 @@ public final class TextTests {
         promise16LatestStop();
         promise17Keep();
         promise18GoBack();
+        promise18NotesAndAltimeters();
         promise19Undo();
         promise19UndoEach();
         Checks.end("TextTests");
