@@ -66,6 +66,13 @@ public final class TextTests {
         errorAt("h0", 1);
         errorAt("h100", 3);
         errorAt("h;", 1);
+        errorAt("h:", 1);
+        errorAt("h/", 1);
+        errorAt("f0:", 2);
+        errorAt("h1/", 2);
+        errorAt("h11:", 3);
+        errorAt("n/", 1);
+        errorAt("c/", 1);
         errorAt("h1;;", 3);
         errorAt("h1;d9;x", 4);
         errorAt("t0", 0);
