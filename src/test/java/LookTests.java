@@ -354,25 +354,8 @@ public final class LookTests {
         Checks.index("landsIn(8)", () -> x.landsIn(8));
     }
 
-    /** A balloon with 200 of gas and no bags, free, that leaks 1 in an hour. */
-    private static RibbonBalloons full() {
-        RibbonBalloons x = new RibbonBalloons();
-        x.vent(0, 60);
-        x.vent(1, 60);
-        x.cut(1);
-        x.cut(0);
-        x.tie(0, 0);
-        x.fill(1, 99);
-        x.fill(1, 99);
-        x.fill(1, 2);
-        for (int bag = 0; bag < 4; bag++) {
-            x.drop(1);
-        }
-        return x;
-    }
-
     private static void promise27FarLandings() {
-        RibbonBalloons x = full();
+        RibbonBalloons x = Edges.full();
         x.leak(0, 0);
         Checks.due("held on the ground now", x.landsIn(1), 0);
         x.cut(0);
@@ -381,7 +364,7 @@ public final class LookTests {
     }
 
     private static void promise27LandingBehindSnaps() {
-        RibbonBalloons x = full();
+        RibbonBalloons x = Edges.full();
         x.bear(0, 400);
         x.cut(4);
         Checks.due("a pull of 999", x.ribbon(0, 3), 999);
@@ -462,28 +445,17 @@ public final class LookTests {
     }
 
     private static void promise32Digest() {
-        RibbonBalloons x = new RibbonBalloons();
-        digest("new", x, false, "");
-        x.keep();
-        digest("snapshot", x, true, "");
-        Checks.type(x, "h1;c");
-        digest("buffer", x, true, "h1;c");
-        x.clearBuffer();
-        Checks.type(x, "v199");
-        digest("buffer", x, true, "v199");
-        x.clearBuffer();
-        Checks.type(x, "n7;n3;h4;n3;c3;d2;v230;d2;c3");
-        x.work();
-        digest("work", x, true, "");
-        x.pass(9);
-        x.tune(1, -20);
-        x.pass(30);
-        x.note(1);
-        digest("hours", x, true, "");
-        x.pass(99);
-        digest("all is lost", x, true, "");
-        RibbonBalloons y = full();
-        digest("full", y, false, "");
+        String[] buffers = {"", "", "h1;c", "v199", "", "", ""};
+        for (int stage = 0; stage < buffers.length; stage++) {
+            // Each stage has an object of its own: to put a hash together takes some 300 calls of its 512.
+            RibbonBalloons x = new RibbonBalloons();
+            for (int step = 1; step <= stage; step++) {
+                step(x, step);
+            }
+            digest("stage " + stage, x, stage > 0, buffers[stage]);
+        }
+        digest("full", Edges.full(), false, "");
+        RibbonBalloons y = Edges.full();
         y.cut(0);
         digest("free", y, false, "");
         for (int height = 0; height <= 130; height++) {
@@ -491,53 +463,39 @@ public final class LookTests {
         }
     }
 
-    /** The hash as the document tells it, by the looks themselves. */
-    private static void digest(String when, RibbonBalloons x, boolean kept, String buffer) {
-        long[] hash = {3821};
-        for (int what = 0; what < 15; what++) {
-            mix(hash, x.count(what));
+    private static void step(RibbonBalloons x, int step) {
+        switch (step) {
+            case 1:
+                x.keep();
+                break;
+            case 2:
+                Checks.type(x, "h1;c");
+                break;
+            case 3:
+                x.clearBuffer();
+                Checks.type(x, "v199");
+                break;
+            case 4:
+                x.clearBuffer();
+                Checks.type(x, "n7;n3;h4;n3;c3;d2;v230;d2;c3");
+                x.work();
+                break;
+            case 5:
+                x.pass(9);
+                x.tune(1, -20);
+                x.pass(30);
+                x.note(1);
+                break;
+            default:
+                x.pass(99);
+                break;
         }
-        for (int b = 0; b < 8; b++) {
-            for (int what = 0; what < 12; what++) {
-                mix(hash, x.balloon(b, what));
-            }
-            for (int deed = 0; deed < 4; deed++) {
-                mix(hash, x.why(b, deed));
-            }
-            for (int what = 0; what < 3; what++) {
-                mix(hash, x.ifDropped(b, what));
-            }
-            mix(hash, x.landsIn(b));
-        }
-        for (int r = 0; r < 7; r++) {
-            for (int what = 0; what < 5; what++) {
-                mix(hash, x.ribbon(r, what));
-            }
-            mix(hash, x.why(r, 4));
-            mix(hash, x.why(r, 5));
-        }
-        for (int rank = 0; rank < x.count(13); rank++) {
-            for (int what = 0; what < 3; what++) {
-                mix(hash, x.noted(rank, what));
-            }
-        }
-        mix(hash, x.stopped(0));
-        mix(hash, x.stopped(1));
-        mix(hash, x.snapsIn());
-        mix(hash, x.bestBag());
-        mix(hash, Double.doubleToLongBits(x.meanHeight()));
-        mix(hash, Float.floatToIntBits(x.lostShare()));
-        mix(hash, kept ? 1 : 0);
-        mix(hash, buffer.length());
-        for (int at = 0; at < buffer.length(); at++) {
-            mix(hash, buffer.charAt(at));
-        }
-        Checks.due("digest, " + when, x.digest(), hash[0]);
-        Checks.due("digest again, " + when, x.digest(), hash[0]);
     }
 
-    private static void mix(long[] hash, long value) {
-        hash[0] = 31 * hash[0] + value;
+    private static void digest(String when, RibbonBalloons x, boolean kept, String buffer) {
+        long due = Hash.of(x, kept, buffer);
+        Checks.due("digest, " + when, x.digest(), due);
+        Checks.due("digest again, " + when, x.digest(), due);
     }
 
     public static void main(String[] args) {
